@@ -90,7 +90,7 @@ public final class WeaveHouse {
     private static final int TEXT_PATCHES = 8;
     private static final int TEXT_PARTS = 24;
     private static final int TEXT_MEMBERS = 12;
-    private static final int PATCH_WEAVES = 12;
+    private static final int PATCH_OTHERS = 12;
     private static final int TEXT_WISHES = 4;
     private static final int BODY_NAMES = 8;
     private static final int BODY_ORDERS = 60;
@@ -157,12 +157,13 @@ public final class WeaveHouse {
     private final byte[] tape = new byte[TAPE_SIZE];
     private int tapeLength;
     private final Tokens tokens = new Tokens();
-    private final Parser parser = new Parser(tokens);
     private final Text[] mods = new Text[MOST_MODS];
     private int modCount;
     private boolean hasGame;
     private Text gameText = new Text();
+    // What is read goes here, and takes its place only when it has no fault.
     private Text spare = new Text();
+    private final Parser parser = new Parser(tokens, spare);
     private final World world = new World(mods, gameText);
     private final Code code = new Code();
     private final Weaver weaver = new Weaver(world, code);
@@ -615,21 +616,24 @@ public final class WeaveHouse {
         final long[] keys = wordsOf(KEYS, KEY_COUNT);
         Text text;
         boolean ofGame;
+        // CLASS or PATCH within one, else NONE.
+        int open;
+        // Things of the open PATCH that are neither fields nor methods.
+        int others;
 
-        Parser(Tokens tokens) {
+        Parser(Tokens tokens, Text first) {
             this.tokens = tokens;
-            reader = new BodyReader(tokens);
+            reader = new BodyReader(tokens, first.bodies);
+            text = first;
         }
 
         boolean readGame(Text into) {
-            text = into;
-            text.clear();
-            ofGame = true;
+            begin(into, true);
             for (int i = 0; i <= TAPE_SIZE; i++) {
-                if (i > 0 && tokens.sees(END_TOKEN)) {
+                if (open == NONE && text.partCount > 0 && tokens.sees(END_TOKEN)) {
                     return pilesHold();
                 }
-                if (!classPart()) {
+                if (!next()) {
                     return false;
                 }
             }
@@ -637,9 +641,7 @@ public final class WeaveHouse {
         }
 
         boolean readMod(Text into) {
-            text = into;
-            text.clear();
-            ofGame = false;
+            begin(into, false);
             if (!tokens.takeKey(keys[MOD])) {
                 return false;
             }
@@ -648,15 +650,21 @@ public final class WeaveHouse {
                 return false;
             }
             for (int i = 0; i <= TAPE_SIZE; i++) {
-                if (tokens.skip('}')) {
+                if (open == NONE && tokens.skip('}')) {
                     return tokens.sees(END_TOKEN) ? pilesHold() : tokens.refuse();
                 }
-                boolean read = tokens.word() == keys[PATCH] ? patchPart() : classPart();
-                if (!read) {
+                if (!next()) {
                     return false;
                 }
             }
             return false;
+        }
+
+        private void begin(Text into, boolean game) {
+            text = into;
+            text.clear();
+            ofGame = game;
+            open = NONE;
         }
 
         private boolean pilesHold() {
@@ -688,7 +696,33 @@ public final class WeaveHouse {
             return false;
         }
 
-        private boolean classPart() {
+        /** Reads what comes next: a class or PATCH up to its {, a thing within it, or its }. */
+        private boolean next() {
+            if (open == NONE) {
+                return !ofGame && tokens.word() == keys[PATCH] ? openPatch() : openClass();
+            }
+            if (tokens.skip('}')) {
+                open = NONE;
+                return true;
+            }
+            int kind = find(keys, FIELD, open == CLASS ? METHOD + 1 : CONST + 1, tokens.word());
+            switch (kind) {
+                case NONE:
+                    return tokens.refuse();
+                case FIELD:
+                    return namedThing(FIELD) != NONE && tokens.takeSign(';');
+                case METHOD:
+                    return methodThing();
+                case TURNING:
+                    return turnThing();
+                case CONST:
+                    return constThing();
+                default:
+                    return wovenThing(kind);
+            }
+        }
+
+        private boolean openClass() {
             if (!tokens.takeKey(keys[CLASS])) {
                 return false;
             }
@@ -713,103 +747,49 @@ public final class WeaveHouse {
                 }
             }
             text.addPart(CLASS, name, above);
-            return tokens.takeSign('{') && classThings();
+            open = CLASS;
+            return tokens.takeSign('{');
         }
 
-        private boolean classThings() {
-            for (int i = 0; i <= TAPE_SIZE; i++) {
-                if (tokens.skip('}')) {
-                    return true;
-                }
-                int kind = find(keys, FIELD, METHOD + 1, tokens.word());
-                if (kind == NONE) {
-                    return tokens.refuse();
-                }
-                boolean read = kind == FIELD ? fieldThing() : methodThing();
-                if (!read) {
-                    return false;
-                }
-            }
-            return false;
-        }
-
-        private boolean patchPart() {
+        private boolean openPatch() {
             if (text.patchCount >= TEXT_PATCHES) {
                 return tokens.fail(MUCH_FAULT, tokens.place());
             }
             tokens.advance();
             long name = tokens.takeWord();
-            if (name == 0 || !tokens.takeSign('{')) {
+            if (name == 0) {
                 return false;
             }
             text.addPart(PATCH, name, 0);
-            int others = 0;
-            for (int i = 0; i <= TAPE_SIZE; i++) {
-                if (tokens.skip('}')) {
-                    return true;
-                }
-                int kind = find(keys, FIELD, CONST + 1, tokens.word());
-                if (kind >= OVER) {
-                    others++;
-                }
-                if (others > PATCH_WEAVES) {
-                    return tokens.fail(MUCH_FAULT, tokens.place());
-                }
-                if (!patchThing(kind)) {
-                    return false;
-                }
-            }
-            return false;
+            open = PATCH;
+            others = 0;
+            return tokens.takeSign('{');
         }
 
-        private boolean patchThing(int kind) {
-            switch (kind) {
-                case FIELD:
-                    return fieldThing();
-                case METHOD:
-                    return methodThing();
-                case OVER:
-                case HEAD:
-                case TAIL:
-                    return bodyThing(kind);
-                case AHEAD:
-                case BEHIND:
-                    return siteThing(kind);
-                case TURNING:
-                    return turnThing();
-                case CONST:
-                    return constThing();
-                default:
-                    return tokens.refuse();
-            }
-        }
-
-        /** A new thing of the kind that comes, with its name; NONE when it has a fault. */
+        /** A new thing of the kind whose word comes, with its name; NONE when it has a fault. */
         private int namedThing(int kind) {
+            if (kind >= OVER) {
+                others++;
+                if (others > PATCH_OTHERS) {
+                    tokens.fail(MUCH_FAULT, tokens.place());
+                    return NONE;
+                }
+            }
             tokens.advance();
             long name = tokens.takeWord();
             if (name == 0) {
                 return NONE;
             }
-            if (kind <= METHOD) {
-                if (text.partHas(kind, name)) {
-                    tokens.fail(NAME_FAULT, tokens.lastPlace);
-                    return NONE;
-                }
-                if (text.partCountOf(kind) >= TEXT_MEMBERS) {
-                    tokens.fail(MUCH_FAULT, tokens.lastPlace);
-                    return NONE;
-                }
+            if (kind <= METHOD && text.partHas(kind, name)) {
+                tokens.fail(NAME_FAULT, tokens.lastPlace);
+                return NONE;
             }
-            int thing = text.addThing(kind, name);
+            boolean full = kind <= METHOD && text.partCountOf(kind) >= TEXT_MEMBERS;
+            int thing = full ? NONE : text.addThing(kind, name);
             if (thing == NONE) {
                 tokens.fail(MUCH_FAULT, tokens.lastPlace);
             }
             return thing;
-        }
-
-        private boolean fieldThing() {
-            return namedThing(FIELD) != NONE && tokens.takeSign(';');
         }
 
         private boolean methodThing() {
@@ -848,20 +828,14 @@ public final class WeaveHouse {
             return false;
         }
 
-        private boolean bodyThing(int kind) {
+        private boolean wovenThing(int kind) {
             int thing = namedThing(kind);
-            return thing != NONE && ownBody(thing, kind);
-        }
-
-        private boolean ownBody(int thing, int kind) {
+            if (thing == NONE || kind >= AHEAD && !site(thing)) {
+                return false;
+            }
             reader.clearNames();
             text.thingBodies[thing] = reader.read(text.bodies, kind);
             return text.thingBodies[thing] != NONE;
-        }
-
-        private boolean siteThing(int kind) {
-            int thing = namedThing(kind);
-            return thing != NONE && site(thing) && ownBody(thing, kind);
         }
 
         private boolean site(int thing) {
@@ -922,8 +896,9 @@ public final class WeaveHouse {
         final int[] wordPlaces = new int[BODY_ORDERS];
         Bodies bodies;
 
-        BodyReader(Tokens tokens) {
+        BodyReader(Tokens tokens, Bodies first) {
             this.tokens = tokens;
+            bodies = first;
         }
 
         void clearNames() {
@@ -1016,21 +991,16 @@ public final class WeaveHouse {
                 }
             }
             if (operands == ANY_NUMBER || operands == WORD_AND_NUMBER || operands == SMALL_NUMBER) {
-                if (!readNumber(operands)) {
+                if (!tokens.takeNumber()) {
                     return false;
                 }
                 number = tokens.lastNumber;
+                if (operands != ANY_NUMBER && (number < 0 || number > SMALL_MOST)) {
+                    return tokens.fail(MUCH_FAULT, tokens.lastPlace);
+                }
             }
             bodies.addOrder(body, what, number, word);
             return tokens.takeSign(';');
-        }
-
-        private boolean readNumber(int operands) {
-            if (!tokens.takeNumber()) {
-                return false;
-            }
-            boolean fits = operands == ANY_NUMBER || tokens.lastNumber >= 0 && tokens.lastNumber <= SMALL_MOST;
-            return fits || tokens.fail(MUCH_FAULT, tokens.lastPlace);
         }
 
         private int storedName(long word) {
@@ -1689,32 +1659,22 @@ public final class WeaveHouse {
             int why = 0;
             int end = text.partEnd(part);
             for (int thing = text.partFirsts[part]; thing < end && why == 0; thing++) {
-                int kind = text.thingKinds[thing];
-                why = kind == FIELD ? fieldWhy(thing, c) : kind == METHOD ? methodWhy(thing, c) : weaveWhy(thing, c);
+                why = text.thingKinds[thing] <= METHOD ? memberWhy(thing, c) : weaveWhy(thing, c);
+                if (why == 0) {
+                    apply(thing, c);
+                }
             }
             return why;
         }
 
-        private int fieldWhy(int thing, int c) {
-            if (world.hasField(c, text.thingNames[thing])) {
+        private int memberWhy(int thing, int c) {
+            long name = text.thingNames[thing];
+            boolean isField = text.thingKinds[thing] == FIELD;
+            if (isField ? world.hasField(c, name) : world.slotOf(c, name) != NONE) {
                 return THERE;
             }
-            if (world.fieldCounts[c] >= MEMBERS) {
-                return TOO_MUCH;
-            }
-            world.addField(c, mod, text.thingNames[thing]);
-            return 0;
-        }
-
-        private int methodWhy(int thing, int c) {
-            if (world.slotOf(c, text.thingNames[thing]) != NONE) {
-                return THERE;
-            }
-            if (world.methodCounts[c] >= MEMBERS) {
-                return TOO_MUCH;
-            }
-            world.addMethod(c, mod, text.thingNames[thing], text.thingBodies[thing]);
-            return 0;
+            int size = isField ? world.fieldCounts[c] : world.methodCounts[c];
+            return size >= MEMBERS ? TOO_MUCH : 0;
         }
 
         private int weaveWhy(int thing, int c) {
@@ -1723,51 +1683,30 @@ public final class WeaveHouse {
                 return LACKS;
             }
             int kind = text.thingKinds[thing];
-            int why = kind == OVER ? overWhy(slot) : kind == TURNING || kind == CONST ? changeWhy(thing, c, slot)
-                    : bodyWhy(thing, slot);
-            if (why != 0) {
-                return why;
-            }
-            world.record(mod, thing, kind, slot);
-            if (kind == OVER) {
-                world.bodyOwners[slot] = mod;
-                world.bodyNumbers[slot] = text.thingBodies[thing];
-            } else if (kind == TURNING || kind == CONST) {
-                markChanged(thing, slot);
-            }
-            return 0;
-        }
-
-        private int overWhy(int slot) {
-            for (int row = 0; row < world.logCount * LOG_ROW; row += LOG_ROW) {
-                int kind = world.log[row + LOG_KIND];
-                if (world.log[row + LOG_SLOT] == slot && kind != HEAD && kind != TAIL) {
-                    return CLASH;
-                }
-            }
-            return 0;
-        }
-
-        private int bodyWhy(int thing, int slot) {
-            int kind = text.thingKinds[thing];
-            if ((kind == AHEAD || kind == BEHIND) && !hasSite(thing, slot)) {
+            if (kind >= AHEAD && text.placesIn(thing, world.bodiesOf(slot), world.bodyNumbers[slot]) == 0) {
                 return LACKS;
+            }
+            if (kind == TURNING && !world.hasMethodFrom(c, text.thingTos[thing])) {
+                return LACKS;
+            }
+            if (kind == OVER) {
+                return isFixed(slot) ? CLASH : 0;
+            }
+            if (kind == TURNING || kind == CONST) {
+                return isChanged(thing, slot) ? CLASH : 0;
             }
             return world.recorded(slot, kind) >= WOVEN_OF_A_KIND ? TOO_MUCH : 0;
         }
 
-        private int changeWhy(int thing, int c, int slot) {
-            if (!hasSite(thing, slot)) {
-                return LACKS;
+        /** Whether a method has something woven in that its body must stay for. */
+        private boolean isFixed(int slot) {
+            for (int i = 0; i < world.logCount * LOG_ROW; i += LOG_ROW) {
+                int kind = world.log[i + LOG_KIND];
+                if (world.log[i + LOG_SLOT] == slot && kind != HEAD && kind != TAIL) {
+                    return true;
+                }
             }
-            if (text.thingKinds[thing] == TURNING && !world.hasMethodFrom(c, text.thingTos[thing])) {
-                return LACKS;
-            }
-            return isChanged(thing, slot) ? CLASH : 0;
-        }
-
-        private boolean hasSite(int thing, int slot) {
-            return text.placesIn(thing, world.bodiesOf(slot), world.bodyNumbers[slot]) > 0;
+            return false;
         }
 
         private boolean isChanged(int thing, int slot) {
@@ -1779,6 +1718,30 @@ public final class WeaveHouse {
                 }
             }
             return false;
+        }
+
+        private void apply(int thing, int c) {
+            long name = text.thingNames[thing];
+            int kind = text.thingKinds[thing];
+            if (kind == FIELD) {
+                world.addField(c, mod, name);
+                return;
+            }
+            if (kind == METHOD) {
+                world.addMethod(c, mod, name, text.thingBodies[thing]);
+                return;
+            }
+            int slot = world.slotOf(c, name);
+            if (slot == NONE) {
+                return;
+            }
+            world.record(mod, thing, kind, slot);
+            if (kind == OVER) {
+                world.bodyOwners[slot] = mod;
+                world.bodyNumbers[slot] = text.thingBodies[thing];
+            } else if (kind == TURNING || kind == CONST) {
+                markChanged(thing, slot);
+            }
         }
 
         private void markChanged(int thing, int slot) {
@@ -2139,10 +2102,14 @@ public final class WeaveHouse {
 
         int run(int most) {
             int before = steps;
-            for (int i = 0; i < most && condition == GOES_ON && steps < MOST_STEPS; i++) {
+            for (int i = 0; i < most && condition == GOES_ON && steps < MOST_STEPS && hasOrder(); i++) {
                 step();
             }
             return steps - before;
+        }
+
+        private boolean hasOrder() {
+            return slot >= 0 && slot < SLOTS && at >= 0 && at < code.sizes[slot];
         }
 
         private void step() {
@@ -2182,6 +2149,18 @@ public final class WeaveHouse {
             return place < 0 ? 0 : pile[place];
         }
 
+        private long variable(int number) {
+            int place = variableBase + number;
+            return number < 0 || place >= variableCount ? 0 : variables[place];
+        }
+
+        private void setVariable(int number, long value) {
+            int place = variableBase + number;
+            if (number >= 0 && place < variableCount) {
+                variables[place] = value;
+            }
+        }
+
         private static long objectValue(int number) {
             return OBJECT_BIT | number;
         }
@@ -2205,10 +2184,10 @@ public final class WeaveHouse {
                     put(OBJECT_BIT);
                     break;
                 case LOAD:
-                    put(variables[variableBase + number]);
+                    put(variable(number));
                     break;
                 case STORE:
-                    variables[variableBase + number] = take();
+                    setVariable(number, take());
                     break;
                 case GET:
                     return getField(here);
@@ -2356,7 +2335,7 @@ public final class WeaveHouse {
             int target = code.methodFor(heap.classOf((int) called), code.aims[here]);
             error = enterError(target, n);
             if (error == 0) {
-                enter(target, n, (int) called, 1);
+                enter(target, n, (int) called, true);
             }
             return error;
         }
@@ -2366,7 +2345,7 @@ public final class WeaveHouse {
             int target = code.methodFor(heap.classOf(self), code.aims[here]);
             int error = enterError(target, n);
             if (error == 0) {
-                enter(target, n, self, 0);
+                enter(target, n, self, false);
             }
             return error;
         }
@@ -2378,8 +2357,8 @@ public final class WeaveHouse {
             return calls >= MOST_CALLS || variableCount + code.variables[target] > MOST_VARIABLES ? DEEP_ERROR : 0;
         }
 
-        /** Calls a method for an object with the n values on top; below them so many others are taken. */
-        private void enter(int target, int n, int object, int below) {
+        /** Calls a method for an object with the n values on top, and takes the object below them if that was called. */
+        private void enter(int target, int n, int called, boolean takesObject) {
             int frame = (calls - 1) * FRAME;
             frames[frame] = slot;
             frames[frame + 1] = at + 1;
@@ -2389,15 +2368,17 @@ public final class WeaveHouse {
             calls++;
             variableBase = variableCount;
             variableCount += code.variables[target];
+            Arrays.fill(variables, variableBase, variableCount, 0);
             for (int i = n - 1; i >= 0; i--) {
-                variables[variableBase + i] = take();
+                setVariable(i, take());
             }
-            Arrays.fill(variables, variableBase + n, variableCount, 0);
-            pileSize -= below;
+            if (takesObject) {
+                take();
+            }
             pileBase = pileSize;
             slot = target;
             at = 0;
-            self = object;
+            self = called;
         }
 
         private void leave() {
@@ -2431,9 +2412,9 @@ public final class WeaveHouse {
                 return ARG_ERROR;
             }
             if (kind == ARG) {
-                put(variables[variableBase + number]);
+                put(variable(number));
             } else if (kind == GIVE) {
-                variables[variableBase + number] = take();
+                setVariable(number, take());
             } else if (place >= 0 && place < pileSize) {
                 if (kind == VALUE) {
                     put(pile[place]);
