@@ -2272,8 +2272,10 @@ public final class WeaveHouse {
                     return first * second;
                 case DIV:
                     return second == 0 ? 0 : first / second;
-                default:
+                case LESS:
                     return first < second ? 1 : 0;
+                default:
+                    return 0;
             }
         }
 
