@@ -1522,7 +1522,6 @@ public final class WeaveHouse {
 
         void forget() {
             woven = false;
-            adoptedCount = 0;
         }
 
         void welcome(int number) {
@@ -2467,7 +2466,6 @@ public final class WeaveHouse {
 
         void clear() {
             size = 0;
-            firsts[1] = 0;
         }
 
         /** The number of a new object, 0 when there is no room. */

@@ -146,6 +146,7 @@ public final class FaultTest {
         mod(SYNTAX, "mod M^");
         mod(SYNTAX, "mod M ^wants N {}");
         mod(SYNTAX, "mod M after ^{}");
+        mod(SYNTAX, "mod M ^call N {}");
         mod(SYNTAX, "mod M{}^;");
         mod(SYNTAX, "mod M{} ^mod N{}");
         mod(SYNTAX, "mod M{ ^field f; }");
@@ -156,6 +157,8 @@ public final class FaultTest {
         mod(0, "mod after after after needs needs breaks breaks { class C : D {} patch E {} }");
         mod(0, "mod M{}");
         patch(SYNTAX, "^call m{}");
+        patch(SYNTAX, "^class B{}");
+        patch(SYNTAX, "^patch A{}");
         patch(SYNTAX, "head ^{}");
         patch(SYNTAX, "head m ^call n {}");
         patch(SYNTAX, "head m ^;");
@@ -296,6 +299,7 @@ public final class FaultTest {
         patch(0, many(1, 3, "over m{null;ret;} head m{} turn m call n to k; const m 1 to 2;"));
         patch(MUCH, many(1, 3, "tail m{} ahead m call n{} behind m call n{} const m 1 to 2;") + "field f; ^head m{}");
         patch(MUCH, many(1, 12, "head m{}") + "^const m 1 to 2;");
+        patch(MUCH, many(1, 12, "over m{null;ret;}") + "^over m{null;ret;}");
         mod(0, "mod M{ patch A{" + many(1, 12, "head m{}") + "} patch A{ head m{} } }");
         patch(0, "ahead m call n # 1 {}");
         patch(MUCH, "ahead m call n # ^0 {}");
@@ -352,7 +356,9 @@ public final class FaultTest {
         gives("null; get f", 1);
         gives("null; dup", 2);
         gives("null; null; swap", 2);
-        gives("null; null; less", 1);
+        for (String order : new String[] {"add", "sub", "mul", "div", "less", "same"}) {
+            gives("null; null; " + order, 1);
+        }
         gives("null; null; call m 1", 1);
         gives("null; null; put f", 0);
         gives("null; store v", 0);

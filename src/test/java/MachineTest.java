@@ -241,6 +241,11 @@ public final class MachineTest {
         for (int what = 0; what < due.length; what++) {
             House.due("object 2 " + what, house.object(2, what), due[what]);
         }
+        WeaveHouse pile = House.woven(House.mainGame("push 1; self; get f; pop; self; push 2; put f; ret;"));
+        pile.go(3);
+        House.due("get takes one and gives one", pile.state(3), 2);
+        pile.go(4);
+        House.due("put takes two", pile.state(3), 1);
         gives(0, "self; get f; ret;");
         gives(5, "self; push 5; put f; self; push 6; put g; self; get f; ret;");
     }
@@ -331,6 +336,32 @@ public final class MachineTest {
         WeaveHouse rest = House.woven("class A { method main() { push 5; self; call m 0; sub; ret; } method m() { push 1; push 2; push 3; ret; } }");
         rest.go(100);
         House.due("the rest of its part goes", rest.state(10), 2);
+        nested();
+    }
+
+    /** Calls within calls come back to their own part of the pile, variables and object. */
+    private static void nested() {
+        WeaveHouse house = House.woven("class A { method main() { push 1; store v; push 50; push 60; new B; push 7; call m 1; add; add; load v; add; ret; } } "
+                + "class B { method m(p) { push 2; store w; push 3; push 4; new C; push 8; call k 1; pop; self; out; load p; out; load w; out; push 5; ret; } } "
+                + "class C { method k(q) { push 9; store x; push 6; push 6; push 6; ret; } }");
+        house.go(16);
+        House.due("three calls", house.state(2), 3);
+        House.due("their variables", house.state(11), 1 + 2 + 2);
+        house.go(4);
+        House.due("back in the second", house.state(2), 2);
+        House.due("its variables and the first's", house.state(11), 3);
+        House.due("both parts of the pile", house.state(3), 2 + 3);
+        house.go(100);
+        House.due("self", house.output(0), 2);
+        House.due("the parameter", house.output(1), 7);
+        House.due("the variable", house.output(2), 2);
+        House.due("what main gives", house.state(10), 50 + 60 + 5 + 1);
+        WeaveHouse first = House.woven("class A { method main() { load v; if L; push 1; store v; self; call m 0; pop; L: push 3; ret; } method m() { push 4; ret; } }");
+        first.go(100);
+        House.due("the first name of all is found", first.state(10), 3);
+        WeaveHouse again = House.woven("class A { method main() { self; call main 0; ret; } }");
+        again.go(3);
+        House.due("main within main", again.state(2), 2);
     }
 
     private static void errors() {
@@ -482,6 +513,9 @@ public final class MachineTest {
         House.due("the next tail's value", house.output(1), 13);
         House.due("of main", house.output(2), 26);
         House.due("given", house.state(10), 26);
+        WeaveHouse least = House.woven(House.mainGame("push 2; ret;"), "mod M { patch A { tail main { value; push 1; add; set; } } }");
+        least.go(100);
+        House.due("the lowest value of the pile", least.state(10), 3);
         WeaveHouse objects = House.woven(game, "mod M { patch A { tail m { self; set; } } }");
         objects.go(100);
         House.due("an object is given", objects.state(10), 1);
@@ -501,6 +535,10 @@ public final class MachineTest {
         House.due("the object is its first parameter", house.output(0), 2);
         House.due("it is called for this method's object", house.output(1), 1);
         House.due("what it gives", house.state(10), 8);
+        WeaveHouse rest = House.woven("class A { method main() { push 9; self; push 3; call m 1; sub; ret; } method t(o, p) { load p; ret; } }",
+                "mod M { patch A { turn main call m to t; } }");
+        rest.go(100);
+        House.due("a TURN takes no more", rest.state(10), 6);
         failsIn(METHOD, 2, game, "mod M { patch A { turn main call m to m; } }");
         // What is taken is a parameter, so it may be null, or an int.
         for (String first : new String[] {"null", "push 4"}) {

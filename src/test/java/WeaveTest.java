@@ -308,8 +308,9 @@ public final class WeaveTest {
         House.load(house, "mod M { patch A { tail main " + sixty + " tail main " + sixty + " tail main { " + "null; pop; ".repeat(13) + "} } }");
         House.load(house, "mod N { patch A { tail main { jump L; L: null; pop; } } }");
         House.load(house, "mod O { patch A { head main { null; pop; } } }");
+        House.load(house, "mod P { patch A { head main { L: jump L; } } }");
         House.due("a method of 300 orders", house.weave(), 2);
-        whys(house, 0, 8, 0);
+        whys(house, 0, 8, 0, 8);
         House.due("298 and 2", house.method(0, 0, 3), 300);
         // m has one parameter: 59 variables more fill it.
         String eight = "{ " + many(1, 8, "null; store v%;") + " }";
