@@ -6,6 +6,7 @@ public final class AgainTest {
     public static void main(String[] args) {
         readGamesAgain();
         readModsAgain();
+        readMuchAgain();
         cutTape();
         weaveAgain();
         weaveOften();
@@ -33,6 +34,8 @@ public final class AgainTest {
         House.due("no place", house.fault(1), -1);
         House.due("a body that does not hold", House.game(house, "class A{method m(){push 1;if L;L:if L;null;ret;}}"), -1);
         House.due("the pile", house.fault(0), 4);
+        House.due("one that fails ahead of a branch", House.game(house, "class A{method m(){push 1;if L;pop;null;L:null;ret;}}"), -1);
+        House.due("orders that can't be come to", House.game(house, "class B{method m(){null;ret;pop;pop;pop;pop;ret;}}"), 1);
         House.due("another game", House.game(house, "class B{method main(){push 1;if L;push 2;ret;L:push 3;ret;}}"), 1);
         House.due("no fault of it", house.fault(0), 0);
         house.weave();
@@ -49,7 +52,7 @@ public final class AgainTest {
     private static void readModsAgain() {
         WeaveHouse house = new WeaveHouse();
         House.game(house, "class A { method m() { push 5; push 5; add; pop; self; call m 0; pop; self; call m 0; ret; } }");
-        String wishes = "mod M after X breaks Y after Z after V { ";
+        String wishes = "mod M needs X breaks N after N after V { ";
         String things = many(1, 8, "patch A { field f%; head m { null; store a; jump L; L: null; pop; } const m 5 # 2 to 6; turn m call m # 2 to m; }");
         House.due("a fault at the end", House.load(house, wishes + things + "} ;"), -1);
         House.due("a mod in its place", House.load(house, "mod N breaks W after X after Y after Z { patch A { const m 5 to 7; turn m call m to m; } class B { } }"), 0);
@@ -60,6 +63,23 @@ public final class AgainTest {
         }
         House.due("both numbers", house.order(0, 0, 0, 2) + house.order(0, 0, 1, 2), 14);
         House.due("eight patches are read behind eight", House.load(house, "mod O { " + many(1, 8, "patch A { }") + " }"), 1);
+    }
+
+    private static void readMuchAgain() {
+        WeaveHouse things = new WeaveHouse();
+        House.game(things, "class A { }");
+        String many = "mod M{" + ("patch A{" + many(1, 12, "field a%;") + "head m{}".repeat(12) + "}").repeat(6);
+        for (int i = 0; i < 4; i++) {
+            House.due("144 things and a fault", House.load(things, many + ";"), -1);
+            House.due("it is the last token", things.fault(1), many.length());
+        }
+        House.due("144 things", House.load(things, many + "}"), 0);
+        WeaveHouse orders = new WeaveHouse();
+        String methods = "class A{" + many(1, 9, "method m%(){" + "self;".repeat(12) + "pop;".repeat(11) + "dup;pop;".repeat(17) + "ret;L:ret;}");
+        House.due("531 orders and a fault", House.game(orders, methods + ";"), -1);
+        House.due("531 orders", House.game(orders, methods + "}"), 1);
+        orders.weave();
+        House.due("all of them", orders.klass(0, 4), 9 * 59);
     }
 
     private static void cutTape() {
@@ -142,7 +162,8 @@ public final class AgainTest {
     }
 
     private static void startBehindErrors() {
-        WeaveHouse house = House.woven("class A { method main() { push 1; self; push 2; call m 1; ret; } method m(p) { push 1; new A; push 2; call m 1; ret; } }",
+        WeaveHouse house = House.woven("class A { method main() { push 1; store v; load v; self; push 2; call m 1; load v; mul; ret; } "
+                + "method m(p) { push 1; new A; push 2; call m 1; ret; } }",
                 "mod M { patch A { tail main { value; out; } } }");
         house.go(100000);
         House.due("deep", house.state(0), 16);
@@ -152,7 +173,7 @@ public final class AgainTest {
         house.start();
         House.due("one call", house.state(2), 1);
         House.due("nothing on the pile", house.state(3), 0);
-        House.due("main's variables", house.state(11), 0);
+        House.due("main's variables", house.state(11), 1);
         house.go(100);
         House.due("over", house.state(0), 2);
         House.due("what main gave", house.state(10), 4);
