@@ -513,10 +513,10 @@ public final class MachineTest {
         House.due("the next tail's value", house.output(1), 13);
         House.due("of main", house.output(2), 26);
         House.due("given", house.state(10), 26);
-        WeaveHouse least = House.woven(House.mainGame("push 2; ret;"), "mod M { patch A { tail main { value; out; push 7; set; } } }");
+        WeaveHouse least = House.woven(House.mainGame("push 2; ret;"), "mod M { patch A { tail main { value; out; push 7; push 8; set; pop; } } }");
         least.go(100);
         House.due("the lowest value of the pile", least.output(0), 2);
-        House.due("set there", least.state(10), 7);
+        House.due("set there", least.state(10), 8);
         WeaveHouse objects = House.woven(game, "mod M { patch A { tail m { self; set; } } }");
         objects.go(100);
         House.due("an object is given", objects.state(10), 1);
