@@ -2122,7 +2122,7 @@ public final class WeaveHouse {
                 return;
             }
             steps++;
-            if (owner >= 0) {
+            if (owner >= 0 && owner < MOST_MODS) {
                 stepsOf[owner]++;
             }
         }
@@ -2174,7 +2174,6 @@ public final class WeaveHouse {
 
         private int move(int kind, int here) {
             int number = code.numbers[here];
-            long value = peek(0);
             switch (kind) {
                 case PUSH:
                     put(intValue(number));
@@ -2196,7 +2195,7 @@ public final class WeaveHouse {
                     take();
                     break;
                 case DUP:
-                    put(value);
+                    put(peek(0));
                     break;
                 default:
                     swap();
