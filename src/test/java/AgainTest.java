@@ -16,17 +16,9 @@ public final class AgainTest {
         House.finish();
     }
 
-    private static String many(int from, int to, String pattern) {
-        StringBuilder all = new StringBuilder();
-        for (int i = from; i <= to; i++) {
-            all.append(pattern.replace("%", String.valueOf(i)));
-        }
-        return all.toString();
-    }
-
     private static void readGamesAgain() {
         WeaveHouse house = new WeaveHouse();
-        String sixteen = many(1, 16, "class A%{field f;method m(p){L:load p;store v;load v;ret;}}");
+        String sixteen = House.many(1, 16, "class A%{field f;method m(p){L:load p;store v;load v;ret;}}");
         House.due("a game with a fault behind sixteen classes", House.game(house, sixteen + "}"), -1);
         House.due("its place", house.fault(1), sixteen.length());
         House.due("the same without the fault", House.game(house, sixteen), 16);
@@ -53,7 +45,7 @@ public final class AgainTest {
         WeaveHouse house = new WeaveHouse();
         House.game(house, "class A { method m() { push 5; push 5; add; pop; self; call m 0; pop; self; call m 0; ret; } }");
         String wishes = "mod M needs X breaks N after N after V { ";
-        String things = many(1, 8, "patch A { field f%; head m { null; store a; jump L; L: null; pop; } const m 5 # 2 to 6; turn m call m # 2 to m; }");
+        String things = House.many(1, 8, "patch A { field f%; head m { null; store a; jump L; L: null; pop; } const m 5 # 2 to 6; turn m call m # 2 to m; }");
         House.due("a fault at the end", House.load(house, wishes + things + "} ;"), -1);
         House.due("a mod in its place", House.load(house, "mod N breaks W after X after Y after Z { patch A { const m 5 to 7; turn m call m to m; } class B { } }"), 0);
         House.due("woven", house.weave(), 1);
@@ -62,20 +54,20 @@ public final class AgainTest {
             House.due("order " + i, house.order(0, 0, i, 0), kinds[i]);
         }
         House.due("both numbers", house.order(0, 0, 0, 2) + house.order(0, 0, 1, 2), 14);
-        House.due("eight patches are read behind eight", House.load(house, "mod O { " + many(1, 8, "patch A { }") + " }"), 1);
+        House.due("eight patches are read behind eight", House.load(house, "mod O { " + House.many(1, 8, "patch A { }") + " }"), 1);
     }
 
     private static void readMuchAgain() {
         WeaveHouse things = new WeaveHouse();
         House.game(things, "class A { }");
-        String many = "mod M{" + ("patch A{" + many(1, 12, "field a%;") + "head m{}".repeat(12) + "}").repeat(6);
+        String many = "mod M{" + ("patch A{" + House.many(1, 12, "field a%;") + "head m{}".repeat(12) + "}").repeat(6);
         for (int i = 0; i < 4; i++) {
             House.due("144 things and a fault", House.load(things, many + ";"), -1);
             House.due("it is the last token", things.fault(1), many.length());
         }
         House.due("144 things", House.load(things, many + "}"), 0);
         WeaveHouse orders = new WeaveHouse();
-        String methods = "class A{" + many(1, 9, "method m%(){" + "self;".repeat(12) + "pop;".repeat(11) + "dup;pop;".repeat(17) + "ret;L:ret;}");
+        String methods = "class A{" + House.many(1, 9, "method m%(){" + "self;".repeat(12) + "pop;".repeat(11) + "dup;pop;".repeat(17) + "ret;L:ret;}");
         House.due("531 orders and a fault", House.game(orders, methods + ";"), -1);
         House.due("531 orders", House.game(orders, methods + "}"), 1);
         orders.weave();

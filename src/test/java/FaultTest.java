@@ -54,14 +54,6 @@ public final class FaultTest {
         mod(kind, "mod M { patch A { " + marked + " } }");
     }
 
-    private static String many(int from, int to, String pattern) {
-        StringBuilder all = new StringBuilder();
-        for (int i = from; i <= to; i++) {
-            all.append(pattern.replace("%", String.valueOf(i)));
-        }
-        return all.toString();
-    }
-
     private static void faultItself() {
         WeaveHouse house = new WeaveHouse();
         House.due("ahead of any", house.fault(0), -1);
@@ -255,16 +247,16 @@ public final class FaultTest {
     }
 
     private static void muchOfTexts() {
-        game(0, many(1, 16, "class A%{}"));
-        game(MUCH, many(1, 16, "class A%{}") + "class ^B{}");
-        mod(0, "mod M{" + many(1, 16, "class A%{}") + "}");
-        mod(MUCH, "mod M{" + many(1, 16, "class A%{}") + "class ^B{} }");
-        game(0, "class A{" + many(1, 12, "field f%;") + many(1, 12, "method m%(){null;ret;}") + "}");
-        game(MUCH, "class A{" + many(1, 12, "field f%;") + "field ^f;}");
-        game(MUCH, "class A{" + many(1, 12, "method m%(){null;ret;}") + "method ^m(){null;ret;} }");
-        patch(0, many(1, 12, "field f%;") + many(1, 12, "method m%(){null;ret;}") + many(1, 12, "head m%{}"));
-        patch(MUCH, many(1, 12, "field f%;") + "field ^f;");
-        patch(MUCH, many(1, 12, "method m%(){null;ret;}") + "method ^m(){null;ret;}");
+        game(0, House.many(1, 16, "class A%{}"));
+        game(MUCH, House.many(1, 16, "class A%{}") + "class ^B{}");
+        mod(0, "mod M{" + House.many(1, 16, "class A%{}") + "}");
+        mod(MUCH, "mod M{" + House.many(1, 16, "class A%{}") + "class ^B{} }");
+        game(0, "class A{" + House.many(1, 12, "field f%;") + House.many(1, 12, "method m%(){null;ret;}") + "}");
+        game(MUCH, "class A{" + House.many(1, 12, "field f%;") + "field ^f;}");
+        game(MUCH, "class A{" + House.many(1, 12, "method m%(){null;ret;}") + "method ^m(){null;ret;} }");
+        patch(0, House.many(1, 12, "field f%;") + House.many(1, 12, "method m%(){null;ret;}") + House.many(1, 12, "head m%{}"));
+        patch(MUCH, House.many(1, 12, "field f%;") + "field ^f;");
+        patch(MUCH, House.many(1, 12, "method m%(){null;ret;}") + "method ^m(){null;ret;}");
     }
 
     private static void muchOfBodies() {
@@ -273,13 +265,13 @@ public final class FaultTest {
         game(MUCH, "class A{ method m(" + eight + ", ^i){null;ret;} }");
         game(0, "class A{ method m(" + eight + "){null; store a; null; store h; load h;ret;} }");
         game(MUCH, "class A{ method m(" + eight + "){null; store ^i; null;ret;} }");
-        body(0, "{" + many(1, 6, "null;store v%;") + "null;store v1;null;ret;}");
-        body(MUCH, "{" + many(1, 6, "null;store v%;") + "null;store ^v7;null;ret;}");
-        patch(0, "over m {" + many(1, 8, "null;store v%;") + "null;ret;}");
-        patch(MUCH, "head m {" + many(1, 8, "null;store v%;") + "null;store ^v9;}");
-        body(0, "{" + many(1, 29, "null;pop;") + "null;ret;}");
-        body(MUCH, "{" + many(1, 29, "null;pop;") + "null;ret;^null;ret;}");
-        body(MUCH, "{" + many(1, 29, "null;pop;") + "null;pop;L: ^null;ret;}");
+        body(0, "{" + House.many(1, 6, "null;store v%;") + "null;store v1;null;ret;}");
+        body(MUCH, "{" + House.many(1, 6, "null;store v%;") + "null;store ^v7;null;ret;}");
+        patch(0, "over m {" + House.many(1, 8, "null;store v%;") + "null;ret;}");
+        patch(MUCH, "head m {" + House.many(1, 8, "null;store v%;") + "null;store ^v9;}");
+        body(0, "{" + House.many(1, 29, "null;pop;") + "null;ret;}");
+        body(MUCH, "{" + House.many(1, 29, "null;pop;") + "null;ret;^null;ret;}");
+        body(MUCH, "{" + House.many(1, 29, "null;pop;") + "null;pop;L: ^null;ret;}");
         body(0, "{ self;self;self;self;self;self;self;self; call m 7; ret; }");
         body(MUCH, "{ self;self;self;self;self;self;self;self;self; call m ^8; ret; }");
         body(MUCH, "{ self; call m ^-1; ret; }");
@@ -294,13 +286,13 @@ public final class FaultTest {
         mod(0, "mod M after A needs B breaks C after D {}");
         mod(MUCH, "mod M after A needs B breaks C after D needs ^E {}");
         mod(SYNTAX, "mod M after A needs B breaks C after D needs ^{}");
-        mod(0, "mod M{" + many(1, 8, "patch A{}") + "}");
-        mod(MUCH, "mod M{" + many(1, 8, "patch A{}") + "class B{} ^patch A{} }");
-        patch(0, many(1, 3, "over m{null;ret;} head m{} turn m call n to k; const m 1 to 2;"));
-        patch(MUCH, many(1, 3, "tail m{} ahead m call n{} behind m call n{} const m 1 to 2;") + "field f; ^head m{}");
-        patch(MUCH, many(1, 12, "head m{}") + "^const m 1 to 2;");
-        patch(MUCH, many(1, 12, "over m{null;ret;}") + "^over m{null;ret;}");
-        mod(0, "mod M{ patch A{" + many(1, 12, "head m{}") + "} patch A{ head m{} } }");
+        mod(0, "mod M{" + House.many(1, 8, "patch A{}") + "}");
+        mod(MUCH, "mod M{" + House.many(1, 8, "patch A{}") + "class B{} ^patch A{} }");
+        patch(0, House.many(1, 3, "over m{null;ret;} head m{} turn m call n to k; const m 1 to 2;"));
+        patch(MUCH, House.many(1, 3, "tail m{} ahead m call n{} behind m call n{} const m 1 to 2;") + "field f; ^head m{}");
+        patch(MUCH, House.many(1, 12, "head m{}") + "^const m 1 to 2;");
+        patch(MUCH, House.many(1, 12, "over m{null;ret;}") + "^over m{null;ret;}");
+        mod(0, "mod M{ patch A{" + House.many(1, 12, "head m{}") + "} patch A{ head m{} } }");
         patch(0, "ahead m call n # 1 {}");
         patch(MUCH, "ahead m call n # ^0 {}");
         patch(MUCH, "behind m call n # ^-1 {}");
@@ -309,11 +301,11 @@ public final class FaultTest {
     }
 
     private static void lowestKindFirst() {
-        game(NAME, many(1, 16, "class A%{}") + "class ^A1{}");
-        game(NAME, "class A{" + many(1, 12, "field f%;") + "field ^f1;}");
+        game(NAME, House.many(1, 16, "class A%{}") + "class ^A1{}");
+        game(NAME, "class A{" + House.many(1, 12, "field f%;") + "field ^f1;}");
         game(NAME, "class A{ method m(a, b, c, d, e, f, g, h, ^a){null;ret;} }");
-        body(SYNTAX, "{" + many(1, 30, "null;pop;") + "^foo;}");
-        patch(SYNTAX, many(1, 12, "head m{}") + "^foo m{}");
+        body(SYNTAX, "{" + House.many(1, 30, "null;pop;") + "^foo;}");
+        patch(SYNTAX, House.many(1, 12, "head m{}") + "^foo m{}");
         // PILE comes behind all the rest, and is told of the first body.
         game(NAME, "class A{ method m(){} } class ^A{}");
         game(PILE, "class A{ method m(){null;ret;} method n() ^{} method k() {} }");

@@ -52,6 +52,15 @@ final class House {
         return "class A { field f; field g; method main() { " + body + " } }";
     }
 
+    /** A pattern again and again, with each number in the place of %. */
+    static String many(int from, int to, String pattern) {
+        StringBuilder all = new StringBuilder();
+        for (int i = from; i <= to; i++) {
+            all.append(pattern.replace("%", String.valueOf(i)));
+        }
+        return all.toString();
+    }
+
     static void due(String what, long got, long want) {
         asked++;
         if (got != want) {

@@ -63,14 +63,6 @@ public final class WeaveTest {
         House.due("why " + patch, house.told(others.length, 0), due);
     }
 
-    private static String many(int from, int to, String pattern) {
-        StringBuilder all = new StringBuilder();
-        for (int i = from; i <= to; i++) {
-            all.append(pattern.replace("%", String.valueOf(i)));
-        }
-        return all.toString();
-    }
-
     private static void turn() {
         WeaveHouse house = mods("mod M { }", "mod N { }");
         House.due("turn 2", house.turn(2, true), false);
@@ -273,16 +265,16 @@ public final class WeaveTest {
 
     private static void muchMembers() {
         String mod = "mod M% { " + "class C%a{} class C%b{} class C%c{} class C%d{} class C%e{} class C%f{} class C%g{} class C%h{} " + "}";
-        WeaveHouse house = mods(mod.replace("%", "1"), mod.replace("%", "2"), "mod M3 { " + many(1, 6, "class D%{}") + " }",
+        WeaveHouse house = mods(mod.replace("%", "1"), mod.replace("%", "2"), "mod M3 { " + House.many(1, 6, "class D%{}") + " }",
                 "mod M4 { class E { } }", "mod M5 { class A { } }", "mod M6 { class F : G { } }");
         whys(house, 0, 0, 0, 8, 5, 6);
         House.due("24 classes", house.count(0), 24);
-        why(0, many(1, 3, "field b%;"), many(1, 12, "field a%;"));
-        why(8, many(1, 4, "field b%;"), many(1, 12, "field a%;"));
-        why(5, many(1, 3, "field b%;") + "field f;", many(1, 12, "field a%;"));
-        why(0, many(1, 1, "method b%(){null;ret;}"), many(1, 12, "method a%(){null;ret;}"));
-        why(8, many(1, 2, "method b%(){null;ret;}"), many(1, 12, "method a%(){null;ret;}"));
-        why(5, many(1, 1, "method b%(){null;ret;}") + "method m(){null;ret;}", many(1, 12, "method a%(){null;ret;}"));
+        why(0, House.many(1, 3, "field b%;"), House.many(1, 12, "field a%;"));
+        why(8, House.many(1, 4, "field b%;"), House.many(1, 12, "field a%;"));
+        why(5, House.many(1, 3, "field b%;") + "field f;", House.many(1, 12, "field a%;"));
+        why(0, House.many(1, 1, "method b%(){null;ret;}"), House.many(1, 12, "method a%(){null;ret;}"));
+        why(8, House.many(1, 2, "method b%(){null;ret;}"), House.many(1, 12, "method a%(){null;ret;}"));
+        why(5, House.many(1, 1, "method b%(){null;ret;}") + "method m(){null;ret;}", House.many(1, 12, "method a%(){null;ret;}"));
     }
 
     private static void muchWoven() {
@@ -313,8 +305,8 @@ public final class WeaveTest {
         whys(house, 0, 8, 0, 8);
         House.due("298 and 2", house.method(0, 0, 3), 300);
         // m has one parameter: 59 variables more fill it.
-        String eight = "{ " + many(1, 8, "null; store v%;") + " }";
-        String threes = "{ " + many(1, 3, "null; store v%;") + " }";
+        String eight = "{ " + House.many(1, 8, "null; store v%;") + " }";
+        String threes = "{ " + House.many(1, 3, "null; store v%;") + " }";
         String all = "head m " + eight;
         why(0, "tail m " + threes, all, all, all, all, all, "head m " + eight + "tail m " + eight);
         why(8, "tail m { null; store v; }", all, all, all, all, all, "head m " + eight + "tail m " + eight + "tail m " + threes);
@@ -324,14 +316,14 @@ public final class WeaveTest {
     /** All code together: 6000 orders are adopted, and not one more. */
     private static void total() {
         String sixty = "{" + "null;pop;".repeat(30) + "}";
-        String methods = many(1, 12, "method m%(){self;call m 0;call m 0;call m 0;call m 0;ret;}");
+        String methods = House.many(1, 12, "method m%(){self;call m 0;call m 0;call m 0;call m 0;ret;}");
         WeaveHouse full = new WeaveHouse();
         House.due("24 methods of 6 orders", House.game(full, "class A{" + methods + "}class B{" + methods + "}"), 2);
         // 24 * 6 = 144; an ahead of 60 orders at 4 calls adds 240 to a method: 24 of them add 5760.
         int mods = 0;
         for (String c : new String[] {"A", "B"}) {
             for (int from = 1; from <= 12; from += 6) {
-                String text = "mod M" + c + from + "{patch " + c + "{" + many(from, from + 5, "ahead m% call m" + sixty) + "}}";
+                String text = "mod M" + c + from + "{patch " + c + "{" + House.many(from, from + 5, "ahead m% call m" + sixty) + "}}";
                 House.due("load of " + text.length(), House.load(full, text), mods);
                 mods++;
             }
