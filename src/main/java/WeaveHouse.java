@@ -2447,7 +2447,7 @@ public final class WeaveHouse {
                 case 8:
                     return slot == NONE ? NONE : at;
                 case 9:
-                    return slot == NONE ? NONE : code.owners[code.firsts[slot] + at];
+                    return hasOrder() ? code.owners[code.firsts[slot] + at] : NONE;
                 case 10:
                     return given;
                 default:

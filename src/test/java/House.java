@@ -11,6 +11,9 @@ final class House {
     /** Puts a text on the tape, which must be empty ahead of it. */
     static void text(WeaveHouse house, String text) {
         byte[] bytes = text.getBytes(StandardCharsets.ISO_8859_1);
+        if (bytes.length > 4000) {
+            due("bytes of a test's own text", bytes.length, 4000);
+        }
         for (int i = 0; i < bytes.length; i += 20) {
             house.feed(four(bytes, i), four(bytes, i + 4), four(bytes, i + 8), four(bytes, i + 12), four(bytes, i + 16));
         }

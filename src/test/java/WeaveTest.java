@@ -29,26 +29,7 @@ public final class WeaveTest {
     }
 
     private static WeaveHouse mods(String... texts) {
-        WeaveHouse house = new WeaveHouse();
-        House.game(house, GAME);
-        for (String text : texts) {
-            House.due("load " + text, House.load(house, text) >= 0, true);
-        }
-        house.weave();
-        return house;
-    }
-
-    /** Each mod's why is as due. */
-    private static void whys(WeaveHouse house, int... due) {
-        for (int mod = 0; mod < due.length; mod++) {
-            House.due("why of mod " + mod, house.told(mod, 0), due[mod]);
-        }
-    }
-
-    private static void places(WeaveHouse house, int... due) {
-        for (int mod = 0; mod < due.length; mod++) {
-            House.due("place of mod " + mod, house.told(mod, 1), due[mod]);
-        }
+        return Mods.of(GAME, texts);
     }
 
     /** Why a mod with such a patch of A is left out behind others with their patches of A. */
@@ -71,14 +52,14 @@ public final class WeaveTest {
         House.due("told as woven", house.told(0, 0), 0);
         House.due("adopted as woven", house.count(1), 2);
         House.due("weave", house.weave(), 1);
-        whys(house, -1, 0);
-        places(house, -1, 0);
+        Mods.whys(house, -1, 0);
+        Mods.places(house, -1, 0);
         House.due("turn 0 off again", house.turn(0, false), true);
         House.due("weave again", house.weave(), 1);
         House.due("turn 0 on", house.turn(0, true), true);
         House.due("still as woven", house.told(0, 0), -1);
         House.due("weave with both", house.weave(), 2);
-        places(house, 0, 1);
+        Mods.places(house, 0, 1);
     }
 
     private static void weave() {
@@ -102,17 +83,17 @@ public final class WeaveTest {
     }
 
     private static void row() {
-        places(mods("mod M after P { }", "mod N { }", "mod O after M { }", "mod P { }"), 2, 0, 3, 1);
-        places(mods("mod M needs N { }", "mod N { }"), 1, 0);
-        places(mods("mod M after X { }", "mod N breaks M { }"), 0, 1);
+        Mods.places(mods("mod M after P { }", "mod N { }", "mod O after M { }", "mod P { }"), 2, 0, 3, 1);
+        Mods.places(mods("mod M needs N { }", "mod N { }"), 1, 0);
+        Mods.places(mods("mod M after X { }", "mod N breaks M { }"), 0, 1);
         // All those of a name come ahead of it.
-        places(mods("mod M after N { }", "mod N { }", "mod N { }", "mod O { }"), 2, 0, 1, 3);
+        Mods.places(mods("mod M after N { }", "mod N { }", "mod N { }", "mod O { }"), 2, 0, 1, 3);
         WeaveHouse house = mods("mod M after N { }", "mod N { }", "mod O { }");
-        places(house, 1, 0, 2);
+        Mods.places(house, 1, 0, 2);
         house.turn(1, false);
         House.due("those that are off are not waited for", house.weave(), 2);
-        places(house, 0, -1, 1);
-        places(mods("mod M { }"), 0, -1);
+        Mods.places(house, 0, -1, 1);
+        Mods.places(mods("mod M { }"), 0, -1);
         House.due("told of a third thing", house.told(0, 3), -1);
         House.due("told below 0", house.told(0, -1), -1);
         House.due("told of no mod", house.told(3, 0), -1);
@@ -121,77 +102,77 @@ public final class WeaveTest {
 
     private static void rings() {
         WeaveHouse house = mods("mod M after N { }", "mod N needs M { }", "mod O { }", "mod P after M { }");
-        whys(house, 1, 1, 0, 1);
-        places(house, -1, -1, 0, -1);
+        Mods.whys(house, 1, 1, 0, 1);
+        Mods.places(house, -1, -1, 0, -1);
         House.due("one is adopted", house.count(1), 1);
-        whys(mods("mod M after M { }", "mod N { }"), 1, 0);
-        whys(mods("mod M needs M { }"), 1);
-        whys(mods("mod M breaks M { }"), 0);
+        Mods.whys(mods("mod M after M { }", "mod N { }"), 1, 0);
+        Mods.whys(mods("mod M needs M { }"), 1);
+        Mods.whys(mods("mod M breaks M { }"), 0);
         house.turn(1, false);
         house.weave();
-        whys(house, 0, -1, 0, 0);
+        Mods.whys(house, 0, -1, 0, 0);
     }
 
     private static void needs() {
-        whys(mods("mod M needs N { }", "mod N { }"), 0, 0);
-        whys(mods("mod M needs N { }"), 2);
-        whys(mods("mod M after N { }"), 0);
+        Mods.whys(mods("mod M needs N { }", "mod N { }"), 0, 0);
+        Mods.whys(mods("mod M needs N { }"), 2);
+        Mods.whys(mods("mod M after N { }"), 0);
         WeaveHouse house = mods("mod M needs N needs O { }", "mod N needs X { }", "mod O { }");
-        whys(house, 2, 2, 0);
-        places(house, 2, 0, 1);
-        whys(mods("mod N needs X { }", "mod N { }", "mod M needs N { }"), 2, 0, 0);
-        whys(mods("mod M needs N breaks O { }", "mod O { }"), 2, 0);
+        Mods.whys(house, 2, 2, 0);
+        Mods.places(house, 2, 0, 1);
+        Mods.whys(mods("mod N needs X { }", "mod N { }", "mod M needs N { }"), 2, 0, 0);
+        Mods.whys(mods("mod M needs N breaks O { }", "mod O { }"), 2, 0);
     }
 
     private static void breaks() {
-        whys(mods("mod M { }", "mod N breaks M { }"), 0, 3);
-        whys(mods("mod M breaks N { }", "mod N { }"), 0, 3);
-        whys(mods("mod M breaks X { }", "mod N breaks Y { }"), 0, 0);
+        Mods.whys(mods("mod M { }", "mod N breaks M { }"), 0, 3);
+        Mods.whys(mods("mod M breaks N { }", "mod N { }"), 0, 3);
+        Mods.whys(mods("mod M breaks X { }", "mod N breaks Y { }"), 0, 0);
         // One that is left out breaks none.
-        whys(mods("mod M breaks N needs X { }", "mod N { }"), 2, 0);
-        whys(mods("mod M breaks M { }", "mod M { }"), 0, 3);
+        Mods.whys(mods("mod M breaks N needs X { }", "mod N { }"), 2, 0);
+        Mods.whys(mods("mod M breaks M { }", "mod M { }"), 0, 3);
     }
 
     private static void sameName() {
         WeaveHouse house = mods("mod M { }", "mod M { }", "mod M { class A { } }");
-        whys(house, 0, 4, 4);
-        places(house, 0, 1, 2);
+        Mods.whys(house, 0, 4, 4);
+        Mods.places(house, 0, 1, 2);
         house.turn(0, false);
         House.due("without the first", house.weave(), 1);
-        whys(house, -1, 0, 4);
+        Mods.whys(house, -1, 0, 4);
     }
 
     private static void there() {
-        whys(mods("mod M { class B { } }"), 5);
-        whys(mods("mod M { class C { } }", "mod N { class C { } }"), 0, 5);
+        Mods.whys(mods("mod M { class B { } }"), 5);
+        Mods.whys(mods("mod M { class C { } }", "mod N { class C { } }"), 0, 5);
         why(5, "field f;");
         why(0, "field g;");
         why(5, "field g;", "field g;");
         why(5, "method m() { null; ret; }");
         why(5, "method k() { null; ret; }", "method k() { null; ret; }");
         // Of the class itself: what is above does not count.
-        whys(mods("mod M { patch B { field f; method m() { null; ret; } } }"), 0);
-        whys(mods("mod M { patch A { field h; } patch A { field h; } }"), 5);
-        whys(mods("mod M { class C { field h; } patch C { field h; } }"), 5);
+        Mods.whys(mods("mod M { patch B { field f; method m() { null; ret; } } }"), 0);
+        Mods.whys(mods("mod M { patch A { field h; } patch A { field h; } }"), 5);
+        Mods.whys(mods("mod M { class C { field h; } patch C { field h; } }"), 5);
     }
 
     private static void lacks() {
-        whys(mods("mod M { class C : D { } }"), 6);
-        whys(mods("mod M { class C : D { } class D { } }"), 6);
-        whys(mods("mod M { class D { } class C : D { } }"), 0);
-        whys(mods("mod M { class C : C { } }"), 6);
-        whys(mods("mod M after N { class C : D { } }", "mod N { class D { } }"), 0, 0);
-        whys(mods("mod M { class C : D { } }", "mod N { class D { } }"), 6, 0);
-        whys(mods("mod M { patch C { } }"), 6);
-        whys(mods("mod M { patch C { } class C { } }"), 6);
-        whys(mods("mod M { class C { } patch C { field f; } }"), 0);
+        Mods.whys(mods("mod M { class C : D { } }"), 6);
+        Mods.whys(mods("mod M { class C : D { } class D { } }"), 6);
+        Mods.whys(mods("mod M { class D { } class C : D { } }"), 0);
+        Mods.whys(mods("mod M { class C : C { } }"), 6);
+        Mods.whys(mods("mod M after N { class C : D { } }", "mod N { class D { } }"), 0, 0);
+        Mods.whys(mods("mod M { class C : D { } }", "mod N { class D { } }"), 6, 0);
+        Mods.whys(mods("mod M { patch C { } }"), 6);
+        Mods.whys(mods("mod M { patch C { } class C { } }"), 6);
+        Mods.whys(mods("mod M { class C { } patch C { field f; } }"), 0);
         for (String thing : new String[] {"over k { null; ret; }", "head k { }", "tail k { }", "ahead k call m { }",
             "behind k call m { }", "turn k call m to n;", "const k 1 to 2;"}) {
             why(6, thing);
         }
         // A method must be the class's own.
-        whys(mods("mod M { patch B { head m { } } }"), 6);
-        whys(mods("mod M { patch B { head k { } } }"), 0);
+        Mods.whys(mods("mod M { patch B { head m { } } }"), 6);
+        Mods.whys(mods("mod M { patch B { head k { } } }"), 0);
         why(0, "head k { }", "method k() { null; ret; }");
         why(0, "method k() { null; ret; } head k { }");
         why(6, "head k { } method k() { null; ret; }");
@@ -214,8 +195,8 @@ public final class WeaveTest {
         why(6, "const m 1 to 5;");
         why(6, "turn main call m to k;");
         why(0, "turn main call m to main;");
-        whys(mods("mod M { patch B { method t() { self; call t 0; ret; } turn t call t to m; turn t call t to k; } }"), 7);
-        whys(mods("mod M { patch B { method t() { self; call t 0; ret; } turn t call t to m; } }"), 0);
+        Mods.whys(mods("mod M { patch B { method t() { self; call t 0; ret; } turn t call t to m; turn t call t to k; } }"), 7);
+        Mods.whys(mods("mod M { patch B { method t() { self; call t 0; ret; } turn t call t to m; } }"), 0);
         // The body is that of the over.
         why(6, "ahead main call m { }", "over main { self; call n 0; ret; }");
         why(0, "ahead main call n { }", "over main { self; call n 0; ret; }");
@@ -240,7 +221,7 @@ public final class WeaveTest {
         why(0, over, "over m { null; ret; }");
         why(0, "head main { } tail main { } ahead main call m { } behind main call m { } turn main call m to n; "
                 + "const main 1 to 2;", over);
-        whys(mods("mod M { patch A { over m { null; ret; } } patch B { method m(p) { null; ret; } over m { null; ret; } } }"), 0);
+        Mods.whys(mods("mod M { patch A { over m { null; ret; } } patch B { method m(p) { null; ret; } over m { null; ret; } } }"), 0);
     }
 
     private static void clashOfSites() {
@@ -260,14 +241,14 @@ public final class WeaveTest {
         // What was left out clashes with none.
         WeaveHouse house = mods("mod M { patch A { const main 1 to 3; turn main call m to n; head k { } } }",
                 "mod N { patch A { const main 1 to 4; turn main call m to n; } }");
-        whys(house, 6, 0);
+        Mods.whys(house, 6, 0);
     }
 
     private static void muchMembers() {
         String mod = "mod M% { " + "class C%a{} class C%b{} class C%c{} class C%d{} class C%e{} class C%f{} class C%g{} class C%h{} " + "}";
         WeaveHouse house = mods(mod.replace("%", "1"), mod.replace("%", "2"), "mod M3 { " + House.many(1, 6, "class D%{}") + " }",
                 "mod M4 { class E { } }", "mod M5 { class A { } }", "mod M6 { class F : G { } }");
-        whys(house, 0, 0, 0, 8, 5, 6);
+        Mods.whys(house, 0, 0, 0, 8, 5, 6);
         House.due("24 classes", house.count(0), 24);
         why(0, House.many(1, 3, "field b%;"), House.many(1, 12, "field a%;"));
         why(8, House.many(1, 4, "field b%;"), House.many(1, 12, "field a%;"));
@@ -302,7 +283,7 @@ public final class WeaveTest {
         House.load(house, "mod O { patch A { head main { null; pop; } } }");
         House.load(house, "mod P { patch A { head main { L: jump L; } } }");
         House.due("a method of 300 orders", house.weave(), 2);
-        whys(house, 0, 8, 0, 8);
+        Mods.whys(house, 0, 8, 0, 8);
         House.due("298 and 2", house.method(0, 0, 3), 300);
         // m has one parameter: 59 variables more fill it.
         String eight = "{ " + House.many(1, 8, "null; store v%;") + " }";
@@ -334,28 +315,28 @@ public final class WeaveTest {
         House.due("6000 orders", full.weave(), 5);
         House.load(full, "mod F { patch B { head m12 { L: jump L; } } }");
         House.due("6001 orders", full.weave(), 5);
-        whys(full, 0, 0, 0, 0, 0, 8);
+        Mods.whys(full, 0, 0, 0, 0, 0, 8);
         full.turn(4, false);
         House.due("5905 orders", full.weave(), 5);
     }
 
     private static void leastWhy() {
         // Of one thing the least; of several things that of the first.
-        whys(mods("mod M { class A : X { } }"), 5);
+        Mods.whys(mods("mod M { class A : X { } }"), 5);
         why(6, "turn main call m to zz;", "turn main call m to n;");
         why(7, "const main 1 to 2; field f;", "const main 1 to 2;");
         why(5, "field f; const main 1 to 2;", "const main 1 to 2;");
         why(6, "head zz { } field f;");
-        whys(mods("mod M { patch A { field f; } patch ZZ { } }"), 5);
-        whys(mods("mod M { patch ZZ { } patch A { field f; } }"), 6);
-        whys(mods("mod M { class C : X { } class A { } }"), 6);
+        Mods.whys(mods("mod M { patch A { field f; } patch ZZ { } }"), 5);
+        Mods.whys(mods("mod M { patch ZZ { } patch A { field f; } }"), 6);
+        Mods.whys(mods("mod M { class C : X { } class A { } }"), 6);
     }
 
     private static void leftOutAsAWhole() {
         WeaveHouse house = mods("mod M { class C { field x; } patch A { field h; method k() { null; ret; } over n { push 8; ret; } "
                 + "head main { } tail main { } ahead main call m { } behind main call m { } turn main call m to n; const main 1 to 9; } "
                 + "patch B { field h; } patch ZZ { } }");
-        whys(house, 6);
+        Mods.whys(house, 6);
         House.due("no class of it", house.count(0), 2);
         House.due("no field of it", house.klass(0, 2), 1);
         House.due("no field of it below", house.klass(1, 2), 1);
@@ -367,7 +348,7 @@ public final class WeaveTest {
         House.due("the old body", house.order(0, 2, 0, 2), 7);
         House.load(house, "mod N { class C { } patch A { field h; method k() { null; ret; } over n { push 8; ret; } } }");
         House.due("another mod finds all as it was", house.weave(), 1);
-        whys(house, 6, 0);
+        Mods.whys(house, 6, 0);
         House.due("and its over holds", house.order(0, 2, 0, 2), 8);
     }
 
