@@ -6,6 +6,7 @@ public final class AgainTest {
     public static void main(String[] args) {
         readGamesAgain();
         readModsAgain();
+        readThingsAgain();
         readMuchAgain();
         cutTape();
         weaveAgain();
@@ -55,6 +56,27 @@ public final class AgainTest {
         }
         House.due("both numbers", house.order(0, 0, 0, 2) + house.order(0, 0, 1, 2), 14);
         House.due("eight patches are read behind eight", House.load(house, "mod O { " + House.many(1, 8, "patch A { }") + " }"), 1);
+    }
+
+    /** The same things at the same places of a text, with and without #, behind a text that had a fault. */
+    private static void readThingsAgain() {
+        String game = "class A { method main() { push 5; push 5; add; pop; self; call m 0; pop; self; call m 0; ret; } method m() { push 3; ret; } method t(o) { push 4; ret; } }";
+        String[] things = {"ahead main call m # 2 { null; pop; } ", "behind main call m # 2 { null; pop; } ", "turn main call m # 2 to t; ", "const main 5 # 2 to 6; "};
+        String[] plain = {"tail main { value; out; } ", "head main { } ", "ahead main call m { null; pop; } ", "behind main call m { null; pop; } ", "turn main call m to t; ",
+            "const main 5 to 6; "};
+        int[] orders = {10 + 2, 10, 10 + 4, 10 + 4, 10, 10};
+        for (String thing : things) {
+            for (int i = 0; i < plain.length; i++) {
+                WeaveHouse house = new WeaveHouse();
+                House.game(house, game);
+                House.due("a fault", House.load(house, "mod M { patch A { " + thing + "} } ;"), -1);
+                House.due("none behind it", House.load(house, "mod M { patch A { " + plain[i] + "} }"), 0);
+                House.due("adopted: " + plain[i] + "behind " + thing, house.weave(), 1);
+                House.due("orders of " + plain[i] + "behind " + thing, house.method(0, 0, 3), orders[i]);
+                House.due("kind of the call of " + plain[i], house.order(0, 0, i == 2 ? 7 : 5, 0), i == 4 ? 27 : 18);
+                House.due("number of " + plain[i], house.order(0, 0, 0, 2), i == 5 ? 6 : 5);
+            }
+        }
     }
 
     private static void readMuchAgain() {

@@ -31,6 +31,7 @@ public final class MachineEdgeTest {
         ifNotZero();
         zeroAtFirst();
         restOfItsPartGoes();
+        fullestPile();
         House.finish();
     }
 
@@ -352,6 +353,13 @@ public final class MachineEdgeTest {
         House.due("none behind it", two.object(1, 2), 0);
         House.due("field of 2", two.object(2, 1), 3);
         House.due("field of 3", two.object(3, 1), 0);
+        WeaveHouse three = House.woven("class A { field f; method main() { self; push 2; put f; new A; push 3; put f; new A; push 4; put f; null; ret; } }");
+        three.go(100);
+        for (int o = 1; o <= 3; o++) {
+            House.due("field of object " + o, three.object(o, 1), o + 1);
+            House.due("no second field of object " + o, three.object(o, 2), 0);
+            House.due("no third field of object " + o, three.object(o, 3), 0);
+        }
     }
 
     /** "The value that has k others above it on the pile ..: 0 when there is none such." */
@@ -485,5 +493,20 @@ public final class MachineEdgeTest {
         House.due("the fullest pile of two", full.state(3), 11 + 12);
         full.go(2);
         House.due("over", full.state(0), 2);
+    }
+
+    /** 60 calls, each with 12 of the body and 12 of an ahead on the pile. */
+    private static void fullestPile() {
+        WeaveHouse house = House.woven("class A { method main() { " + "push 3; ".repeat(11) + "self; call x 0; ret; } }",
+                "mod M { patch A { ahead main call x { " + "push 4; ".repeat(11) + "self; call main 0; " + "pop; ".repeat(12) + "} } }");
+        House.due("all of it fits", house.told(0, 0), 0);
+        house.go(100000);
+        House.due("deep", house.state(0), 16);
+        House.due("60 calls", house.state(2), 60);
+        House.due("the pile", house.state(3), 59 * 23 + 24);
+        House.due("on top", house.top(0, 0), 1);
+        House.due("below it", house.top(1, 0), 4);
+        House.due("the last of all", house.top(59 * 23 + 23, 0), 3);
+        House.due("none below", house.top(59 * 23 + 24, 0), 0);
     }
 }

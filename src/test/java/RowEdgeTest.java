@@ -17,6 +17,7 @@ public final class RowEdgeTest {
         breaks();
         name();
         wishesInOrder();
+        allFourWishes();
         turnNoneSuch();
         weaveWithoutAGame();
         weaveGoesBefore();
@@ -183,6 +184,21 @@ public final class RowEdgeTest {
         Mods.whys(mods("mod A { }", "mod A breaks A { class A { } }"), 0, 3);
         Mods.whys(mods("mod A { }", "mod A { class A { } }"), 0, 4);
         Mods.whys(mods("mod A { }", "mod B { class A { } }"), 0, 5);
+    }
+
+    /** Each of four wishes counts, be it the first or the last. */
+    private static void allFourWishes() {
+        for (int at = 0; at < 4; at++) {
+            String[] wishes = {"after X ", "after X ", "after X ", "after X "};
+            wishes[at] = "needs Y ";
+            Mods.whys(mods("mod A " + String.join("", wishes) + "{ }"), 2);
+            Mods.places(mods("mod A " + String.join("", wishes) + "{ }", "mod Y { }"), 1, 0);
+            wishes[at] = "breaks Y ";
+            Mods.whys(mods("mod Y { }", "mod A " + String.join("", wishes) + "{ }"), 0, 3);
+            Mods.whys(mods("mod A " + String.join("", wishes) + "{ }", "mod Y { }"), 0, 3);
+            wishes[at] = "after Y ";
+            Mods.places(mods("mod A " + String.join("", wishes) + "{ }", "mod Y { }"), 1, 0);
+        }
     }
 
     /** "A mod is on, or off: true; false when there is none such." */

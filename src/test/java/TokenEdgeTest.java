@@ -9,6 +9,9 @@ public final class TokenEdgeTest {
         firstByteOfAWord();
         tenAtMost();
         allTenCount();
+        everyLetterCounts();
+        shortestWords();
+        asManyTokensAsBytes();
         oneToNineDigits();
         minusDirectlyAhead();
         numbersByTheirValue();
@@ -88,6 +91,44 @@ public final class TokenEdgeTest {
     private static void allTenCount() {
         Marked.game(0, "class abcdefghij{} class abcdefghik{} class abcdefghi{} class bbcdefghij{} class Abcdefghij{} class abcdeFghij{}");
         Marked.game(Marked.NAME, "class abcdefghij{} class ^abcdefghij{}");
+    }
+
+    /** Words of two that differ in either one are two: as the LABELS of a body, which must not be told twice. */
+    private static void everyLetterCounts() {
+        String letters = "abcdefghijklmnopqrstuvwxyzABCDEFGHIJKLMNOPQRSTUVWXYZ";
+        String all = letters + "0123456789";
+        for (char last : all.toCharArray()) {
+            StringBuilder body = new StringBuilder();
+            for (char first : letters.toCharArray()) {
+                body.append(first).append(last).append(":jump ").append(first).append(last).append(';');
+            }
+            Marked.game(0, "class A{method m(){" + body + "}}");
+        }
+        for (char first : letters.toCharArray()) {
+            StringBuilder body = new StringBuilder();
+            for (char last : all.substring(2).toCharArray()) {
+                body.append(first).append(last).append(":jump ").append(first).append(last).append(';');
+            }
+            Marked.game(0, "class A{method m(){" + body + "}}");
+        }
+    }
+
+    /** A word of the one letter a is a word wherever one can come. */
+    private static void shortestWords() {
+        WeaveHouse house = Mods.of("class a { field a; method a(a) { a: load a; if a; self; get a; pop; new a; null; call a 1; store a; load a; ret; } }",
+                "mod b { class c : a { } }", "mod a needs b after b { class b : c { } patch a { head a { a: null; if a; null; store a; load a; pop; } ahead a call a { } turn a call a to a; } }");
+        Mods.whys(house, 0, 0);
+        House.due("the class above", house.klass(1, 1), 0);
+        House.due("the turned call", house.order(0, 0, 13, 0), 27);
+    }
+
+    /** 4000 tokens of a byte each. */
+    private static void asManyTokensAsBytes() {
+        for (String sign : new String[] {"{", ";", "1"}) {
+            Marked.game(Marked.SYNTAX, "^" + (sign.equals("1") ? "1 " : sign + sign).repeat(2000));
+        }
+        Marked.game(Marked.SYNTAX, "class A{" + "}^" + "}".repeat(3991));
+        Marked.game(Marked.SYNTAX, "class A{method m(){^" + ";".repeat(3981));
     }
 
     /** "1 to 9 digits"; "a longer .. NUMBER is none, at its first byte". */

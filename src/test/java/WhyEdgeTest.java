@@ -38,6 +38,11 @@ public final class WhyEdgeTest {
         leastOfOneThing();
         firstOfAllThings();
         asAWhole();
+        nothingOfItStays();
+        numbersOfItGo();
+        fullTexts();
+        fullClasses();
+        fullBodies();
         House.finish();
     }
 
@@ -422,5 +427,140 @@ public final class WhyEdgeTest {
         house.go(1000);
         House.due("what main gives", house.state(10), 1);
         House.due("no steps of it", house.told(0, 2), 0);
+    }
+
+    /** What is left out counts for none of the limits, and stands in no one's way. */
+    private static void nothingOfItStays() {
+        for (String thing : new String[] {"head main { } ", "tail main { } ", "ahead main call m { } ", "behind main call m { } "}) {
+            mods(due(LACKS, 0, MUCH), "mod M { patch A { " + thing.repeat(6) + "head x { } } }", "mod N { patch A { " + thing.repeat(6) + "} }", "mod O { patch A { " + thing + "} }");
+        }
+        String twelve = House.many(1, 12, "method a%(){null;ret;}");
+        mods(due(LACKS, 0), "mod M{patch A{" + twelve + "head x{}}}", "mod N{patch A{" + twelve + "}}");
+        mods(due(LACKS, 0), "mod M{" + House.many(1, 16, "class C%{}") + "patch X{}}", "mod N{" + House.many(1, 16, "class C%{}") + "}");
+        // A method that was left out is not called, though another class has one of that name.
+        WeaveHouse house = Mods.of("class A { method main() { self; call x 0; ret; } } class B { method x() { null; ret; } field y; }",
+                "mod M { patch A { method x() { null; ret; } field y; } patch X { } }");
+        Mods.whys(house, LACKS);
+        house.start();
+        house.go(9);
+        House.due("no such method", house.state(0), 14);
+        // Its orders are counted no more: a method of 60 that went with it, then 6000 of all without it.
+        String methods = House.many(1, 12, "method m%(){null;" + "ret;".repeat(15) + "}");
+        String tails = House.many(1, 12, "tail m%{" + "null;pop;".repeat(7) + "L:jump L;}");
+        String eighth = "{" + "null;pop;".repeat(27) + "}";
+        WeaveHouse full = Mods.of("class B{" + methods + "}class A{" + methods.replace("method m12(){null;" + "ret;".repeat(15) + "}", "") + "}",
+                "mod Z{patch A{method m12(){null;" + "ret;".repeat(59) + "}tail m12{null;pop;null;pop;null;pop;}}}",
+                "mod M{patch B{" + tails + "}patch A{" + tails.replace("tail m12{" + "null;pop;".repeat(7) + "L:jump L;}", "") + "}}",
+                "mod N{patch B{" + House.many(1, 4, "head m%" + eighth) + "}patch A{" + House.many(1, 4, "head m%" + eighth) + "head m5{" + "null;pop;".repeat(12) + "L:jump L;}}}");
+        Mods.whys(full, MUCH, 0, 0);
+        // 23 methods of 241, 8 heads of 54 and one of 25.
+        House.due("6000 orders", full.klass(0, 4) + full.klass(1, 4), 6000);
+    }
+
+    /** Numbers and calls that it changed are as they were, in whichever method. */
+    private static void numbersOfItGo() {
+        String things = House.many(1, 4, "const m% 5 to 6; turn m% call n to n; over k% {push 7;ret;} ");
+        String methods = House.many(1, 4, "method m%(){push 5;self;call n 0;pop;ret;} method k%(){push 5;ret;}") + "method n(){null;ret;}";
+        WeaveHouse house = Mods.of("class A{" + methods + "}class B{" + methods + "}",
+                "mod M{patch A{" + things + "}patch B{" + things + "}patch X{}}", "mod N{patch A{const m4 5 to 8;}}");
+        Mods.whys(house, LACKS, 0);
+        for (int c = 0; c < 2; c++) {
+            for (int m = 0; m < 8; m++) {
+                boolean changed = c == 0 && m == 6;
+                House.due("number of " + c + " " + m, house.order(c, m, 0, 2), changed ? 8 : 5);
+                House.due("owner of " + c + " " + m, house.order(c, m, 0, 1), changed ? 1 : -1);
+                House.due("owner of the body of " + c + " " + m, house.method(c, m, 5), -1);
+                House.due("the third order of " + c + " " + m, house.order(c, m, 2, 0), m % 2 == 0 ? 18 : -1);
+            }
+        }
+        // Without that PATCH all of it comes.
+        WeaveHouse whole = Mods.of("class A{" + methods + "}class B{" + methods + "}", "mod M{patch A{" + things + "}patch B{" + things + "}}");
+        Mods.whys(whole, 0);
+        for (int c = 0; c < 2; c++) {
+            for (int m = 0; m < 8; m++) {
+                House.due("new number of " + c + " " + m, whole.order(c, m, 0, 2), m % 2 == 0 ? 6 : 7);
+                House.due("the third order then of " + c + " " + m, whole.order(c, m, 2, 0), m % 2 == 0 ? 27 : -1);
+            }
+        }
+    }
+
+    /** All that a text may have comes: 16 classes and 8 PATCHES, and 8 mods of 8 PATCHES of 12 things. */
+    private static void fullTexts() {
+        WeaveHouse house = Mods.of("class A{}", "mod M{" + House.many(1, 16, "class C%{field f;}") + House.many(1, 8, "patch C%{field g;}") + "}",
+                "mod N{" + House.many(9, 16, "patch C%{field g;}") + "}");
+        Mods.whys(house, 0, 0);
+        House.due("17 classes", house.count(0), 17);
+        for (int c = 1; c <= 16; c++) {
+            House.due("fields of class " + c, house.klass(c, 2), 2);
+        }
+        String[] mods = new String[8];
+        for (int i = 0; i < 8; i++) {
+            StringBuilder patches = new StringBuilder();
+            for (char m = 'a'; m <= 'h'; m++) {
+                patches.append("patch C").append(i).append('{').append(("head " + m + "{}").repeat(6)).append(("tail " + m + "{}").repeat(5)).append("tail ").append(m).append("{L:jump L;}}");
+            }
+            mods[i] = "mod M" + i + "{" + patches + "}";
+        }
+        StringBuilder methods = new StringBuilder();
+        for (char m = 'a'; m <= 'h'; m++) {
+            methods.append("method ").append(m).append("(){null;ret;}");
+        }
+        WeaveHouse all = Mods.of(House.many(0, 7, "class C%{" + methods + "}"), mods);
+        Mods.whys(all, 0, 0, 0, 0, 0, 0, 0, 0);
+        for (int c = 0; c < 8; c++) {
+            House.due("orders of class " + c, all.klass(c, 4), 8 * 3);
+        }
+        House.due("the last thing's owner", all.order(7, 7, 1, 1), 7);
+    }
+
+    /** Full classes side by side: each member is that of its own class. */
+    private static void fullClasses() {
+        String fields = House.many(1, 12, "field f%;");
+        String game = "class A{" + House.many(1, 11, "method m%(){push 1;ret;}") + "method main(){new B;store b;load b;push 7;put f1;load b;call m1 0;ret;}}"
+                + "class B{" + fields + "method m1(){push 1;ret;}}";
+        WeaveHouse house = Mods.of(game, "mod M{patch B{const m1 1 to 5;}}", "mod N{patch A{" + fields + House.many(12, 15, "method m%(){push 2;ret;}") + "}}",
+                "mod O{patch A{" + House.many(13, 16, "field f%;") + "}}");
+        Mods.whys(house, 0, 0, 0);
+        House.due("16 methods", house.klass(0, 3), 16);
+        House.due("16 fields", house.klass(0, 2), 16);
+        House.due("the number of the next class stays changed", house.order(1, 0, 0, 2), 5);
+        house.start();
+        house.go(100);
+        House.due("what its method gives", house.state(10), 5);
+        House.due("its first field", house.object(2, 1), 7);
+        lastClass();
+    }
+
+    /** The 24th class with 16 fields and 16 methods. */
+    private static void lastClass() {
+        WeaveHouse house = Mods.of("class A{method main(){new Z;store z;load z;push 7;put h4;load z;push 3;call k4 1;ret;}}" + House.many(2, 16, "class A%{}"),
+                "mod M{" + House.many(1, 7, "class B%{}") + "class Z{" + House.many(1, 12, "field f%;") + House.many(1, 12, "method m%(){null;ret;}") + "}}",
+                "mod N{patch Z{" + House.many(1, 4, "field h%;method k%(p){load p;push 1;add;ret;}") + "const k4 1 to 2;head k4{push 9;store v;load v;out;}}}");
+        Mods.whys(house, 0, 0);
+        House.due("24 classes", house.count(0), 24);
+        House.due("its fields", house.klass(23, 2), 16);
+        House.due("its methods", house.klass(23, 3), 16);
+        House.due("the last one's owner", house.method(23, 15, 0), 1);
+        House.due("its orders", house.method(23, 15, 3), 8);
+        house.start();
+        house.go(100);
+        House.due("what it gives", house.state(10), 5);
+        House.due("its output", house.output(0), 9);
+        House.due("its last field", house.object(2, 16), 7);
+        House.due("no further field", house.object(2, 17), 0);
+    }
+
+    /** A body of 60 orders: what is changed in it is not changed in the one behind it. */
+    private static void fullBodies() {
+        String sixty = "{" + "push 1;pop;".repeat(29) + "push 1;ret;}";
+        String game = "class A{method m()" + sixty + "method n(){push 1;pop;self;call x 0;ret;}method x(){push 1;ret;}}";
+        WeaveHouse house = Mods.of(game, "mod M{patch A{const m 1 to 5;}}", "mod N{patch A{const n 1 to 6;const m 7 to 8;}}", "mod O{patch A{const n 1 to 6;}}");
+        Mods.whys(house, 0, LACKS, 0);
+        House.due("the last push", house.order(0, 0, 58, 2), 5);
+        House.due("the next body's", house.order(0, 1, 0, 2), 6);
+        House.due("its owner", house.order(0, 1, 0, 1), 2);
+        House.due("the one behind it", house.order(0, 2, 0, 2), 1);
+        Mods.last(LACKS, game, "const m 1 # 31 to 5;");
+        Mods.last(0, game, "const m 1 # 30 to 5;");
     }
 }

@@ -15,6 +15,7 @@ public final class WovenCodeTest {
         aheadsAndBehinds();
         sites();
         labels();
+        labelsOfTheFirstOrder();
         changes();
         over();
         variables();
@@ -157,6 +158,14 @@ public final class WovenCodeTest {
                 + "tail m { push 3; pop; } } }");
         code(house, 0, 0, "push 0", "if 0 0", "self -1", "push 0 1", "if 0 5", "push 0 2", "pop 0", "call -1", "jump 0 8", "if -1 2", "self -1",
                 "push -1 1", "if -1 3", "jump -1 9", "push 0 3", "pop 0", "ret -1");
+    }
+
+    private static void labelsOfTheFirstOrder() {
+        // The first order's own jump leads behind the heads, too.
+        WeaveHouse house = woven("class A { method m() { jump L; null; ret; L: null; ret; } method n() { K: jump K; } }",
+                "mod M { patch A { head m { null; pop; } head n { null; pop; } } }");
+        code(house, 0, 0, "null 0", "pop 0", "jump -1 5", "null -1", "ret -1", "null -1", "ret -1");
+        code(house, 0, 1, "null 0", "pop 0", "jump -1 2");
     }
 
     private static void changes() {
