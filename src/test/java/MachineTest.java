@@ -356,6 +356,14 @@ public final class MachineTest {
         House.due("the parameter", house.output(1), 7);
         House.due("the variable", house.output(2), 2);
         House.due("what main gives", house.state(10), 50 + 60 + 5 + 1);
+        WeaveHouse selves = House.woven("class A { method main() { new B; call m 0; pop; self; out; load v; out; null; ret; store v; } } "
+                + "class B { method m() { new C; call m 0; pop; self; out; null; ret; } } class C { method m() { new D; call m 0; pop; self; out; null; ret; } } "
+                + "class D { method m() { self; out; null; ret; } }");
+        selves.go(100);
+        int[] due = {4, 3, 2, 1, 0};
+        for (int i = 0; i < due.length; i++) {
+            House.due("self of each call as it comes back " + i, selves.output(i), due[i]);
+        }
         WeaveHouse first = House.woven("class A { method main() { load v; if L; push 1; store v; self; call m 0; pop; L: push 3; ret; } method m() { push 4; ret; } }");
         first.go(100);
         House.due("the first name of all is found", first.state(10), 3);

@@ -560,6 +560,8 @@ public final class WhyEdgeTest {
         House.due("the next body's", house.order(0, 1, 0, 2), 6);
         House.due("its owner", house.order(0, 1, 0, 1), 2);
         House.due("the one behind it", house.order(0, 2, 0, 2), 1);
+        // Nor does what was changed behind it stand in its way.
+        Mods.last(0, game, "const n 1 to 6;", "const m 1 to 5;");
         Mods.last(LACKS, game, "const m 1 # 31 to 5;");
         Mods.last(0, game, "const m 1 # 30 to 5;");
     }
