@@ -153,6 +153,9 @@ public final class SyntaxEdgeTest {
         read(false, "mod M { patch A { ahead n call m ^1 { } } }");
         read(false, "mod M { patch A { turn n call m ^p ; } }");
         read(false, "mod M { patch A { turn n call m to p ^} }");
+        read(false, "mod M { patch A { turn n call m to ^; } }");
+        read(false, "mod M { patch A { turn n call to ^p ; } }");
+        read(false, "mod M { patch A { const n 1 to ^; } }");
         read(false, "mod M { patch A { const n ^to 2 ; } }");
         read(false, "mod M { patch A { const n 1 ^2 ; } }");
         read(false, "mod M { patch A { const n 1 to 2 ^} }");
