@@ -12,6 +12,7 @@ public final class TokenEdgeTest {
         everyLetterCounts();
         shortestWords();
         asManyTokensAsBytes();
+        numbersAreNoWords();
         oneToNineDigits();
         minusDirectlyAhead();
         numbersByTheirValue();
@@ -129,6 +130,30 @@ public final class TokenEdgeTest {
         }
         Marked.game(Marked.SYNTAX, "class A{" + "}^" + "}".repeat(3991));
         Marked.game(Marked.SYNTAX, "class A{method m(){^" + ";".repeat(3981));
+    }
+
+    /** A NUMBER is no WORD, not even one that a program may hold a word's letters as. */
+    private static void numbersAreNoWords() {
+        Marked.game(Marked.SYNTAX, "class ^" + lettersOf("A") + "{}");
+        Marked.mod(Marked.SYNTAX, "^" + lettersOf("mod") + " M{}");
+        Marked.patch(Marked.SYNTAX, "^" + lettersOf("over") + " m{L:jump L;}");
+        Marked.patch(Marked.SYNTAX, "^" + lettersOf("head") + " m{}");
+        Marked.patch(Marked.SYNTAX, "ahead m ^" + lettersOf("call") + " n{}");
+        Marked.patch(Marked.SYNTAX, "turn m call n ^" + lettersOf("to") + " k;");
+        Marked.patch(Marked.SYNTAX, "const m 1 ^" + lettersOf("to") + " 2;");
+        for (String order : new String[] {"self", "null", "dup", "pop", "add", "ret", "out"}) {
+            Marked.body(Marked.SYNTAX, "{null;null;^" + lettersOf(order) + ";null;ret;}");
+        }
+        Marked.body(Marked.SYNTAX, "{null;^" + lettersOf("if") + " L;L:null;ret;}");
+    }
+
+    /** The letters as digits to the base of 64, a being 1. */
+    private static int lettersOf(String word) {
+        int number = 0;
+        for (char c : word.toCharArray()) {
+            number = number * 64 + (c >= 'a' ? c - 'a' + 1 : c - 'A' + 27);
+        }
+        return number;
     }
 
     /** "1 to 9 digits"; "a longer .. NUMBER is none, at its first byte". */
